@@ -836,7 +836,7 @@ public final class LetterCrew {
         /** At most 18 are DOWN in one FALL (six UP, two RAISED by each of six), each brings five at most. */
         private static final int ROW_ROOM = 128;
 
-        private final Plan plan;
+        final Plan plan;
         final Actor[] actors = new Actor[ACTOR_ROOM];
         final Links links = new Links();
         final Seen seen = new Seen();

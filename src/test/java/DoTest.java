@@ -116,6 +116,11 @@ public final class DoTest {
         LetterCrew x = Due.crew("m*-;");
         x.send(0, 0);
         due.is("10: a mute one goes on when it is late", x.tick(3), 1);
+        LetterCrew w = Due.crew("h?4;");
+        w.send(0, 4);
+        w.send(0, 5);
+        due.is("10: the newest one may be the oldest of all", w.tick(1), 1);
+        due.is("10: box(0, 0, 0)", w.box(0, 0, 0), 5);
         due.is("10: it is at its next step", x.actor(0, 2), 1);
         due.is("10: its letter stays", x.actor(0, 4), 1);
         LetterCrew y = Due.crew("a?8;");
@@ -295,6 +300,15 @@ public final class DoTest {
         x.restore();
         x.tick(2);
         due.is("11: fell(1) at 8, raised at 6", x.fell(1), 1);
+        LetterCrew w = Due.crew("b-,a-;01");
+        w.fell(1);
+        w.fell(1);
+        w.tick(4);
+        w.image();
+        due.is("11: fell(1) at 4, raised twice at 0", w.fell(1), 2);
+        w.restore();
+        w.tick(1);
+        due.is("11: fell(1) at 5, raised twice at 0", w.fell(1), 1);
         LetterCrew y = Due.crew("b-,a-;01");
         y.fell(1);
         y.fell(1);
@@ -420,6 +434,9 @@ public final class DoTest {
         due.is("15: fell(1)", x.fell(1), 2);
         due.is("15: be(0, 4), it is down", x.be(0, 4), 2);
         due.is("15: actor(0, 1), it stays down", x.actor(0, 1), 0);
+        due.is("15: be(0, 0)", x.be(0, 0), 4);
+        due.is("15: be(0, 1)", x.be(0, 1), 0);
+        due.is("15: actor(0, 0)", x.actor(0, 0), 1);
         LetterCrew y = Due.crew("a?1;");
         y.send(0, 1);
         y.send(0, 2);

@@ -171,10 +171,15 @@ public final class PageTest {
     }
 
     private static void crewStartsAnew() {
-        LetterCrew x = Due.crew("a-x,b*;01");
+        LetterCrew x = Due.crew("a-x,b*,a-,a-;01");
         x.send(1, 5);
+        x.send(2, 5);
+        x.send(3, 5);
+        x.fell(3);
         x.tick(2);
         x.fell(1);
+        x.raise(0);
+        x.send(0, 5);
         x.see(0, 2, true);
         x.round(0);
         x.image();

@@ -96,6 +96,7 @@ public final class TellTest {
         due.is("21: restore()", x.restore(), 2);
         due.is("21: digest() after restore()", x.digest(), then);
         due.is("21: box(2, 0, 0) after restore()", x.box(2, 0, 0), 6);
+        restoreBringsBack();
         x.tick(4);
         due.is("21: restore() again", x.restore(), 2);
         due.is("21: digest() after restore() again", x.digest(), then);
@@ -113,6 +114,33 @@ public final class TellTest {
         due.is("20: image() of another crew", x.image(), 0);
         due.is("21: restore() of another crew", x.restore(), 0);
         due.is("21: count(9)", x.count(9), 2);
+    }
+
+    private static void restoreBringsBack() {
+        LetterCrew x = Due.crew("a-,t!03--,a-;01,12");
+        x.send(0, 1);
+        x.tick(1);
+        x.see(2, 0, true);
+        x.image();
+        long then = x.digest();
+        x.fell(0);
+        x.raise(0);
+        x.send(0, 7);
+        x.send(0, 8);
+        x.fell(2);
+        x.tick(1);
+        x.forget();
+        x.see(1, 3, true);
+        x.cut(0, 1);
+        x.tie(2, 0);
+        x.restore();
+        due.is("21: digest() after restore()", x.digest(), then);
+        due.is("21: box(0, 0, 0) after restore()", x.box(0, 0, 0), 1);
+        due.is("21: box(0, 1, 1) after restore()", x.box(0, 1, 1), 1);
+        due.is("21: actor(1, 2) after restore()", x.actor(1, 2), 1);
+        due.is("21: actor(2, 7) after restore()", x.actor(2, 7), 16);
+        due.is("21: cut(1, 0) after restore()", x.cut(1, 0), 1);
+        due.is("21: cut(2, 1) after restore()", x.cut(2, 1), 0);
     }
 
     private static void imageKeepsRaises() {
@@ -146,14 +174,18 @@ public final class TellTest {
         for (int what = 0; what < counts.length; what++) {
             due.is("22: count(" + what + ")", x.count(what), counts[what]);
         }
+        x.raise(0);
+        x.send(0, 2);
+        due.is("22: count(4), of all boxes", x.count(4), 3);
         due.is("22: count(11)", x.count(11), OUTSIDE);
         due.is("22: count(-1)", x.count(-1), OUTSIDE);
         due.is("22: count(MIN)", x.count(Integer.MIN_VALUE), OUTSIDE);
     }
 
     private static void digest() {
-        LetterCrew x = Due.crew("h?1-,a!03,bx;02,21");
+        LetterCrew x = Due.crew("h?1-,a!03,b-;02,21");
         x.send(0, 4);
+        x.send(2, 8);
         x.see(0, 1, false);
         x.tick(1);
         Due.write(x, "b;~");

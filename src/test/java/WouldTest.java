@@ -55,6 +55,15 @@ public final class WouldTest {
         y.raise(1);
         due.is("16: round(0), a letter of another sign", y.round(0), 1);
         due.is("16: round(1), a letter of another sign", y.round(1), 2);
+        // Two letters lie there, three more come after 2, 3 and 5 ticks.
+        LetterCrew z = Due.crew("a-,a!00!01-;");
+        z.tick(2);
+        due.is("16: round(0), a box that fills", z.round(0), 5);
+        due.is("16: round(1), a box that fills", z.round(1), 3);
+        LetterCrew w = Due.crew("a-!03*,a--x;");
+        w.tick(2);
+        due.is("16: round(0), from a step behind", w.round(0), 1);
+        due.is("16: round(1), from a step behind", w.round(1), 3);
     }
 
     private static void roundLooksAtRaises() {
@@ -96,6 +105,8 @@ public final class WouldTest {
         due.is("16: round(0), none", z.round(0), NONE);
         due.is("16: round(1), none", z.round(1), NONE);
         due.is("16: count(10), none counts, too", z.count(10), 2);
+        round("m*-,m*--,m*;", 0, 60);
+        round("m*-,m*--,m*,ax;", NONE, NONE);
     }
 
     private static void see() {
