@@ -21,10 +21,14 @@ public final class LanguageTest {
         "->", "::", "\\bstatic\\s*\\{", "\\bException\\b", "\\bRandom\\b", "\\bSystem\\.(?!arraycopy)", "Exact\\b",
         "\\b(hashCode|toString|getClass)\\b", "\\bthis\\b(?!\\.)", "\\?\\s*>", "@"};
 
+    private static final List<String> STATIC_TYPES =
+            List.of("int", "long", "boolean", "char", "String", "int[]", "long[]", "char[]", "byte[]");
+
     private static int wrong = 0;
 
     public static void main(String[] args) throws Exception {
         face();
+        size();
         source();
         System.out.println("LanguageTest: " + wrong + " wrong");
         if (wrong != 0) {
@@ -70,10 +74,39 @@ public final class LanguageTest {
             if (!Modifier.isPrivate(f.getModifiers())) {
                 constants.add(f.getName() + " " + f.getInt(null));
             }
-            due(f + " is final or an object's", Modifier.isFinal(f.getModifiers()) || !Modifier.isStatic(f.getModifiers()), true);
         }
         due("the constants", constants, new TreeSet<>(Arrays.asList(CONSTANTS)));
         due("the constructors", c.getDeclaredConstructors().length, 1);
+    }
+
+    /** Rule 11, and rule 5: no static field but constants. */
+    private static void size() {
+        List<Class<?>> all = new ArrayList<>(Arrays.asList(LetterCrew.class.getDeclaredClasses()));
+        all.add(LetterCrew.class);
+        for (Class<?> c : all) {
+            int fields = 0;
+            for (Field f : c.getDeclaredFields()) {
+                boolean isStatic = Modifier.isStatic(f.getModifiers());
+                fields += isStatic ? 0 : 1;
+                due(f + " is final or an object's", !isStatic || Modifier.isFinal(f.getModifiers()), true);
+                due(f + " is a constant or an object's",
+                        !isStatic || STATIC_TYPES.contains(f.getType().getSimpleName()), true);
+            }
+            due(c + " has at most twenty fields", fields <= 20, true);
+            for (Method m : c.getDeclaredMethods()) {
+                due(m + " takes at most seven", m.getParameterCount() <= 7, true);
+            }
+        }
+    }
+
+    /** The lines of the longest method, by the indents of its first and last line. */
+    private static int longestMethod(String code) {
+        Matcher m = Pattern.compile("(?m)^( {4}| {8})(?!.*\\bclass\\b)\\S.*\\) \\{\n((?:\\1 +.*\n|\n)*)\\1\\}").matcher(code);
+        int longest = 0;
+        while (m.find()) {
+            longest = Math.max(longest, (int) m.group(2).lines().count());
+        }
+        return longest;
     }
 
     private static void source() throws Exception {
@@ -84,6 +117,8 @@ public final class LanguageTest {
             due("the find of " + pattern, m.find() ? code.substring(m.start(), m.end()) : "none", "none");
         }
         due("the classes are at most twelve", Pattern.compile("\\bclass\\b").matcher(code).results().count() <= 12, true);
+        int longest = longestMethod(source);
+        due("the longest method has " + longest + " lines, some sixty at most", longest > 5 && longest <= 60, true);
         due("all signs are plain", source.chars().allMatch(s -> s == '\n' || (s >= 32 && s < 127)), true);
     }
 }

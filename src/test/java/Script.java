@@ -128,7 +128,7 @@ final class Script {
         }
     }
 
-    private static long constant(String text) {
+    static long constant(String text) {
         switch (text) {
             case "NONE": return LetterCrew.NONE;
             case "UNKNOWN": return LetterCrew.UNKNOWN;
